@@ -63,6 +63,9 @@ public final class BeliefTest {
         x.set(3, 24, -1);
         DUE.is("a weight below 0", x.freed(3, 0), -6);
         x.set(3, 24, 99);
+        x.set(3, 0, 100);
+        DUE.is("the first weight", x.freed(3, 0), -6);
+        x.set(3, 0, 0);
         DUE.is("a weight of 99", x.freed(3, 0), 0);
         DUE.is("behind(3, 0, 25)", x.behind(3, 0, 25), -6);
         DUE.is("behind(3, 0, -1)", x.behind(3, 0, -1), -6);

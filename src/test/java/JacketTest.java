@@ -80,6 +80,7 @@ public final class JacketTest {
             {"slack 1 1 1", 9}, {"lack 1,", 6}, {"pull 0 0", 8}, {"pull 0 0 ", 9}, {"pull 0 0 1 ", 10},
             {"depth 1\n", 7}, {"seconds 0001", 11}, {"seconds 3000", 11}, {"cost 0", 6}, {"cost 0 ", 7},
             {"cost 1 2 3", 8}, {"at", 2}, {"a 1", 1}, {"gap 1;gap 1;gxp 1", 13}, {"hurry\t1", 5},
+            {"teeth 4at 1", 7}, {"teeth 4tx", 7}, {"teeth 40at 1", 8}, {"teeth 004at 1", 9}, {"gap 1gap 2", 5},
             {"d", 1}, {"depth", 5}, {"c", 1}, {"h", 1}, {"at 1;t", 6},
         };
         for (Object[] text : texts) {
@@ -183,6 +184,12 @@ public final class JacketTest {
         DUE.is("the last one", x.status(2), 1);
         DUE.is("an end too early", read(x, text + ";"), -6);
         DUE.is("its place", x.fault(), 160);
+        text.insert(3, '0');
+        DUE.is("as long as may be", read(x, text.toString()), 32);
+        text.setCharAt(159, ';');
+        DUE.is("a number that isn't there", read(x, text.toString()), -6);
+        DUE.is("its place", x.fault(), 159);
+        DUE.is("what was told ahead stays", x.status(2), 1);
     }
 
     /** A text cut short is at fault at its end, or at the number that may not be as it stands. */

@@ -140,9 +140,16 @@ public final class ShelvesTest {
         DUE.is("element(0, -1)", x.element(0, -1), 0);
         DUE.is("element(1, 0)", x.element(1, 0), 0);
         DUE.is("element(2, 0)", x.element(2, 0), 0);
+        x.row(2, 3, 160);
+        DUE.is("element(2, 160) of 160", x.element(2, 160), 0);
+        DUE.is("set(2, 160, 1) of 160", x.set(2, 160, 1), -5);
+        x.set(2, 159, 4);
+        x.row(2, 3, 4);
+        DUE.is("element(2, 159) of 4", x.element(2, 159), 0);
+        x.show(2, -1);
         DUE.is("element(8, 0)", x.element(8, 0), 0);
         for (int no = 11; no <= 17; no++) {
-            DUE.is("nothing was refused", x.status(no), 0);
+            DUE.is("only a set was refused", x.status(no), no == 15 ? 1 : 0);
         }
     }
 

@@ -135,6 +135,9 @@ public final class ToldTest {
         DUE.is("what isn't looked at", x.meant(0, 2, -1), 0);
         x.set(0, 1, -1);
         DUE.is("no DEPTH below 0", x.meant(0, 2, -1), -6);
+        x.set(0, 1, 0);
+        x.set(0, 0, 25);
+        DUE.is("no DEPTH at first", x.meant(0, 1, -1), -6);
     }
 
     private static void anyTale(Random random) {

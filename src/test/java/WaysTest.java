@@ -12,6 +12,7 @@ public final class WaysTest {
         byHand();
         atTheEdges();
         refused();
+        narrow();
         Random random = new Random(3);
         for (int round = 0; round < 1500; round++) {
             anyJacket(random);
@@ -123,15 +124,30 @@ public final class WaysTest {
     }
 
     private static void compare(Random random, Pulling[] some, int n) {
+        costs = new int[] {random.nextInt(20), random.nextInt(60), random.nextInt(60)};
+        int d = random.nextInt(random.nextBoolean() ? 6 : 25);
+        int seconds = random.nextInt(random.nextBoolean() ? 40 : 301);
+        compareAt(some, n, d, seconds, random.nextInt(10));
+    }
+
+    /** Where but one of 12 frees, and where seconds are just enough or just too few. */
+    private static void narrow() {
+        costs = new int[] {5, 60, 50};
+        for (int seconds = 23; seconds <= 25; seconds++) {
+            for (int d = 1; d <= 24; d++) {
+                compareAt(new Pulling[] {new Pulling(2, 0, 6)}, 4, d, seconds, 9);
+                compareAt(new Pulling[] {new Pulling(2, 9, 6), new Pulling(5, 0, 7)}, 4, d, seconds + 30, 9);
+                compareAt(new Pulling[] {new Pulling(6, 9, 6), new Pulling(4, 0, 5)}, 4, d, seconds, 0);
+            }
+        }
+    }
+
+    private static void compareAt(Pulling[] some, int n, int d, int seconds, int hurry) {
         TheLiningsInIt x = new TheLiningsInIt();
         pulls = some;
-        costs = new int[] {random.nextInt(20), random.nextInt(60), random.nextInt(60)};
         for (Pulling p : pulls) {
             x.pull(p.kind, p.a, p.takes);
         }
-        int d = random.nextInt(random.nextBoolean() ? 6 : 25);
-        int seconds = random.nextInt(random.nextBoolean() ? 40 : 301);
-        int hurry = random.nextInt(10);
         x.ask(0, d);
         x.ask(1, seconds);
         x.ask(2, hurry);
