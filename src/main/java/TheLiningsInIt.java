@@ -468,12 +468,16 @@ public final class TheLiningsInIt {
         if (!shelf.tellsWithin(n, 0, DEEPEST)) {
             return refuse(WRONG);
         }
+        int rows = rowsMeant(shelf, n);
         if (i == NONE) {
-            return rowsMeant(shelf, n);
+            return rows;
+        }
+        // The i-th pull is one of a whole row: where no row made all the depths, none made the i-th.
+        if (rows == 0) {
+            return refuse(BEYOND);
         }
         int from = i == 0 ? now.depth : shelf.tells(i - 1);
-        int first = now.firstMaking(from, shelf.tells(i));
-        return first == NONE ? refuse(BEYOND) : first;
+        return now.firstMaking(from, shelf.tells(i));
     }
 
     public int closed() {

@@ -8,6 +8,7 @@ public final class ToldTest {
         judged();
         judgingRefused();
         meant();
+        meantByNone();
         meantMany();
         meaningRefused();
         Random random = new Random(6);
@@ -82,6 +83,8 @@ public final class ToldTest {
         Due.ints(x, 1, 5, 6);
         DUE.is("none without HURRY", x.meant(1, 2, -1), 0);
         DUE.is("none made it", x.meant(1, 2, 1), -5);
+        DUE.is("none of a row that none made", x.meant(1, 2, 0), -5);
+        DUE.is("the same without what none made", x.meant(1, 1, 0), 0);
         x.ask(2, 6);
         DUE.is("some by HURRY", x.meant(1, 2, -1), 6);
         Due.ints(x, 2, 6);
@@ -92,6 +95,31 @@ public final class ToldTest {
         x.ask(0, 24);
         Due.ints(x, 4, 23);
         DUE.is("of 0 of 12 is none, by HURRY 6", x.meant(4, 1, -1), 0);
+    }
+
+    private static void meantByNone() {
+        TheLiningsInIt x = new TheLiningsInIt();
+        x.pull(2, 0, 1);
+        x.ask(0, 1);
+        Due.ints(x, 3, 0, 0);
+        DUE.is("no row ends with a PULL at DEPTH 0", x.meant(3, 2, -1), 0);
+        DUE.is("so none made the first", x.meant(3, 2, 0), -5);
+        DUE.is("nor the second", x.meant(3, 2, 1), -5);
+        DUE.is("both refused as BEYOND", x.status(15), 2);
+        DUE.is("the first alone", x.meant(3, 1, 0), 0);
+        Due.ints(x, 4, 9, 7);
+        x.ask(0, 3);
+        DUE.is("none where the first can't be", x.meant(4, 2, -1), 0);
+        DUE.is("no second behind it", x.meant(4, 2, 1), -5);
+        x.ask(0, 9);
+        Due.ints(x, 5, 7, 9, 0);
+        DUE.is("none in the middle", x.meant(5, 3, 0), -5);
+        DUE.is("none in the end", x.meant(5, 3, 2), -5);
+        TheLiningsInIt y = new TheLiningsInIt();
+        y.ask(0, 5);
+        Due.ints(y, 0, 5);
+        DUE.is("no PULLS: no rows", y.meant(0, 1, -1), 0);
+        DUE.is("no PULLS: none", y.meant(0, 1, 0), -5);
     }
 
     private static void meantMany() {
@@ -167,21 +195,23 @@ public final class ToldTest {
         DUE.is("judge", x.judge(0, n), wrong(pulls, told, depth, hurry));
         long rows = 1;
         int from = depth;
+        int[] first = new int[n];
         for (int i = 0; i < n; i++) {
             int count = 0;
-            int first = -5;
             for (int p = pulls.length - 1; p >= 0; p--) {
                 int ways = pulls[p].ways(from, hurry);
                 boolean freed = ways != 0 && pulls[p].freed(from) == depths[i];
                 boolean stuck = ways != 12 && pulls[p].stuck(from, hurry) == depths[i];
                 if (from > 0 && (freed || stuck)) {
                     count++;
-                    first = p;
+                    first[i] = p;
                 }
             }
-            DUE.is("the first that made it", x.meant(1, n, i), first);
             rows *= count;
             from = depths[i];
+        }
+        for (int i = 0; i < n; i++) {
+            DUE.is("the first that made it", x.meant(1, n, i), rows == 0 ? -5 : first[i]);
         }
         DUE.is("how many", x.meant(1, n, -1), Math.min(1000000, rows));
     }
