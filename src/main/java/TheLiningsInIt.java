@@ -843,13 +843,17 @@ public final class TheLiningsInIt {
         void renew(int n) {
             size = n;
             at = 0;
-            Arrays.fill(lacking, false);
-            Arrays.fill(slacks, 0);
+            for (int tooth = 0; tooth < MOST_TEETH; tooth++) {
+                lacking[tooth] = false;
+                slacks[tooth] = 0;
+            }
         }
 
         void become(Zip other) {
-            System.arraycopy(other.lacking, 0, lacking, 0, MOST_TEETH);
-            System.arraycopy(other.slacks, 0, slacks, 0, MOST_TEETH);
+            for (int tooth = 0; tooth < MOST_TEETH; tooth++) {
+                lacking[tooth] = other.lacking[tooth];
+                slacks[tooth] = other.slacks[tooth];
+            }
             size = other.size;
             at = other.at;
             gap = other.gap;

@@ -10,7 +10,7 @@ public final class AnyCallsTest {
     private static Random random;
 
     public static void main(String[] args) {
-        for (int round = 0; round < 400; round++) {
+        for (int round = 0; round < 6000; round++) {
             random = new Random(round);
             anyCalls();
         }
@@ -28,7 +28,8 @@ public final class AnyCallsTest {
         }
         Due.text(x, 1, TEXTS[random.nextInt(TEXTS.length)]);
         x.row(2, random.nextInt(4), 25);
-        for (int i = 0; i < 300; i++) {
+        // Some 70 calls a step, as all that is seen is looked at: an object is promised 512.
+        for (int i = 0; i < 6; i++) {
             int method = random.nextInt(39);
             long before = view(x);
             int refusals = refusals(x);

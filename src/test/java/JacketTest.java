@@ -184,12 +184,11 @@ public final class JacketTest {
         DUE.is("the last one", x.status(2), 1);
         DUE.is("an end too early", read(x, text + ";"), -6);
         DUE.is("its place", x.fault(), 160);
-        text.insert(3, '0');
-        DUE.is("as long as may be", read(x, text.toString()), 32);
-        text.setCharAt(159, ';');
-        DUE.is("a number that isn't there", read(x, text.toString()), -6);
-        DUE.is("its place", x.fault(), 159);
         DUE.is("what was told ahead stays", x.status(2), 1);
+        text.insert(3, '0');
+        DUE.is("as long as may be", tell(text.toString()), 32);
+        text.setCharAt(159, ';');
+        DUE.is("a number that isn't there", tell(text.toString()), -100 - 159);
     }
 
     /** A text cut short is at fault at its end, or at the number that may not be as it stands. */

@@ -16,7 +16,8 @@ public final class LanguageTest {
                 .replaceAll("\"[^\"\n]*\"", "\"\"");
         String[] never = {"\\b(throw|try|catch|synchronized|assert|package|goto|native|var)\\b", "->", "::",
             "Exact\\b", "\\bSystem\\.(?!arraycopy)", "\\bMath\\.(?!max|min|abs|floor)", "@", "\\bObject\\b",
-            "\\b(equals|hashCode|toString)\\b", "\\bprotected\\b", "\\bThread\\b", "\"\\s*\\+|\\+\\s*\""};
+            "\\b(equals|hashCode|toString)\\b", "\\bprotected\\b", "\\bThread\\b", "\"\\s*\\+|\\+\\s*\"",
+            "Arrays\\.fill\\([^;]*(true|false)\\)"};
         for (String word : never) {
             DUE.is("no " + word, Pattern.compile(word).matcher(code).find() ? 1 : 0, 0);
         }

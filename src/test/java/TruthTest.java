@@ -16,7 +16,7 @@ public final class TruthTest {
             anyPulls(random);
             anyClosing(random);
         }
-        for (int round = 0; round < 150; round++) {
+        for (int round = 0; round < 300; round++) {
             anyWinter(random);
         }
         DUE.end();
@@ -190,7 +190,7 @@ public final class TruthTest {
     /** A winter beside its days, made by the calls that the document makes it of. */
     private static void anyWinter(Random random) {
         int jacket = random.nextInt();
-        int days = 1 + random.nextInt(4);
+        int days = 1 + random.nextInt(2);
         TheLiningsInIt x = jacketForWinter(jacket);
         TheLiningsInIt y = jacketForWinter(jacket);
         int came = 0;
